@@ -187,6 +187,10 @@ public final class UseTest {
         x.lift(1, 30);
         ground(x, 0, 1, 30 * DAY - 1, 0);
         ground(x, 0, 1, 30 * DAY, 1);
+        ConsentRegister y = register();
+        y.consent(1, 0, true, 0);
+        y.hold(1, 2, 0);
+        ground(y, 0, 0, 0, 0);
     }
 
     private static void promise12FirstGround() {
