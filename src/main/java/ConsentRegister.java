@@ -894,6 +894,7 @@ public final class ConsentRegister {
             }
         }
     }
+
     /** The uses, without values; what comes when it is full is left out. */
     private static final class UseLog {
         private static final int MOST = 200;

@@ -10,6 +10,15 @@ final class Check {
 
     private int asked;
     private int wrong;
+    private String sentence = "";
+
+    /**
+     * What is asked from here on stands for these words of that section of the document;
+     * SentencesTest reads these calls to see that no sentence is left without a test.
+     */
+    void says(String section, String words) {
+        sentence = section + ", '" + words + "': ";
+    }
 
     void same(String what, long got, long want) {
         asked++;
@@ -54,7 +63,7 @@ final class Check {
     private void fail(String text) {
         wrong++;
         if (wrong <= 20) {
-            System.out.println("wrong: " + text);
+            System.out.println("wrong: " + sentence + text);
         }
     }
 }

@@ -1,22 +1,33 @@
-/** Promises 14 and 15: erase and sweep, with what is kept and what goes along. */
+/** Promises 14 and 15, and the terms behind them: erase and sweep, with what is kept and what goes along. */
 public final class ErasureTest {
     private static final Check CHECK = new Check();
     private static final int DAY = 1440;
+    private static final int LOW = Integer.MIN_VALUE;
+    private static final int HIGH = Integer.MAX_VALUE;
 
     public static void main(String[] args) {
-        promise14Refusals();
-        promise14PutOnly();
-        promise14CopiesAndFlagsGo();
-        promise14SumsStay();
-        promise14KeptByHold();
-        promise14KeptByDuty();
-        promise14KeptByDerived();
-        promise14SumBetweenKeptAndNot();
-        promise14NotKeptThroughErased();
-        promise15Refusals();
-        promise15Due();
+        promise14NoSuchPerson();
+        promise14Minutes();
+        promise14AllThatWerePut();
+        promise14HowMany();
+        termsCopyOrFlagGoes();
+        termsSumGoesWithoutInput();
+        termsAndSoOn();
+        termsWordsAreZero();
+        termsKeptByHold();
+        termsKeptByDuty();
+        termsDutyWhateverItsPurpose();
+        termsKeptByDerived();
+        termsKeptDownALongChain();
+        termsKeptBesideNotKept();
+        termsNotKeptThroughErased();
+        promise14OnTheDayOfAMinute();
+        promise15Days();
+        promise15DueOnADay();
+        promise15OrWereBefore();
+        promise15NotDue();
         promise15Kept();
-        promise15DerivedGo();
+        promise15HowMany();
         CHECK.end();
     }
 
@@ -47,65 +58,126 @@ public final class ErasureTest {
         CHECK.same("how many live", x.state(3), items.length);
     }
 
-    private static void promise14Refusals() {
+    private static void promise14NoSuchPerson() {
+        CHECK.says("Promise 14", "there is no such person");
         ConsentRegister x = register();
-        for (int person : new int[] {-1, 16, 32, Integer.MIN_VALUE, Integer.MAX_VALUE}) {
+        for (int person : new int[] {-1, 16, 32, LOW, HIGH}) {
             CHECK.refuses("erase " + person, Check.ARGUMENT, () -> x.erase(person, 0));
         }
-        for (int minute : new int[] {-1, 10_000_001, Integer.MIN_VALUE, Integer.MAX_VALUE}) {
+        living(x, 0, 1, 2);
+        CHECK.same("a person without items", x.erase(15, 0), 0);
+        CHECK.same("the first person", x.erase(0, 0), 1);
+        x.put(15, 0, 1, 0);
+        CHECK.same("the last person", x.erase(15, 0), 1);
+    }
+
+    private static void promise14Minutes() {
+        CHECK.says("Promise 14", "or the minute is not so");
+        ConsentRegister x = register();
+        for (int minute : new int[] {-1, -1440, 10_000_001, LOW, HIGH}) {
             CHECK.refuses("erase at " + minute, Check.ARGUMENT, () -> x.erase(0, minute));
         }
         living(x, 0, 1, 2);
-        CHECK.same("a person without items", x.erase(15, 10_000_000), 0);
-        living(x, 0, 1, 2);
+        CHECK.same("the first minute", x.erase(0, 0), 1);
+        CHECK.same("the last minute", x.erase(1, 10_000_000), 1);
+        living(x, 2);
     }
 
-    private static void promise14PutOnly() {
+    private static void promise14AllThatWerePut() {
+        CHECK.says("Promise 14", "To ERASE all items that were put of a person");
         ConsentRegister x = register();
         x.put(0, 1, 7, 6000);
         x.derive(1, 1, 2);
-        CHECK.same("all that were put of a person, of every kind and day", x.erase(0, 0), 2);
+        CHECK.same("of every kind and day", x.erase(0, 0), 2);
         living(x, 1, 2, 4);
         CHECK.same("once only", x.erase(0, 0), 0);
-        x.derive(1, 1, 4);
-        CHECK.same("one of two inputs", x.erase(1, 0), 1);
-        living(x, 2, 4, 5);
-        CHECK.same("the last input", x.erase(2, 0), 3);
-        living(x);
+        CHECK.same("not a derived one that has this person, while an input lives", x.erase(1, 0), 1);
+        living(x, 2, 4);
+        CHECK.same("not a derived one, where none was put", x.erase(1, 0), 0);
+        living(x, 2, 4);
     }
 
-    private static void promise14CopiesAndFlagsGo() {
+    private static void promise14HowMany() {
+        CHECK.says("Promise 14", "how many items (derived ones, too) are erased");
+        ConsentRegister x = register();
+        x.derive(0, 0, 0);
+        x.derive(0, 3, 0);
+        x.derive(2, 1, 0);
+        CHECK.same("one, two copies and a flag", x.erase(0, 0), 4);
+        living(x, 1, 2);
+        CHECK.same("one", x.erase(1, 0), 1);
+        CHECK.same("none is left", x.erase(1, 0), 0);
+    }
+
+    private static void termsCopyOrFlagGoes() {
+        CHECK.says("Terms", "and then each COPY or FLAG with an erased input");
         ConsentRegister x = register();
         x.derive(0, 0, 0);
         x.derive(2, 0, 1);
         x.derive(2, 1, 0);
-        x.derive(2, 1, 2);
-        x.derive(0, 4, 0);
-        x.derive(0, 3, 0);
-        CHECK.same("how many go", x.erase(0, 0), 6);
-        living(x, 1, 2, 6);
-        CHECK.same("a flag of others stays", x.peek(6), 0);
-        CHECK.same("derived from 1 straight", x.look(1, 4), 1);
+        x.derive(2, 2, 1);
+        x.derive(0, 1, 0);
+        CHECK.same("how many go", x.erase(0, 0), 4);
+        living(x, 1, 2, 6, 7);
+        CHECK.same("a flag of others stays", x.peek(6), 1);
+        CHECK.same("a copy of another one stays", x.peek(7), 200);
     }
 
-    private static void promise14SumsStay() {
+    private static void termsSumGoesWithoutInput() {
+        CHECK.says("Terms", "each SUM without an input that lives");
+        ConsentRegister x = register();
+        x.derive(1, 0, 1);
+        x.derive(1, 1, 0);
+        CHECK.same("one input goes", x.erase(0, 0), 1);
+        living(x, 1, 2, 3, 4);
+        CHECK.same("the sum of the second", x.peek(3), 200);
+        CHECK.same("the sum of the first", x.peek(4), 200);
+        CHECK.same("the other one goes", x.erase(1, 0), 3);
+        living(x, 2);
+        // Both inputs at once.
+        ConsentRegister y = register();
+        y.put(0, 1, 9, 0);
+        y.derive(1, 0, 3);
+        CHECK.same("both inputs go", y.erase(0, 0), 3);
+        living(y, 1, 2);
+    }
+
+    private static void termsAndSoOn() {
+        CHECK.says("Terms", "and so on");
         ConsentRegister x = register();
         x.derive(0, 0, 0);
-        x.derive(1, 3, 1);
         x.derive(1, 0, 3);
-        x.derive(2, 4, 2);
+        x.derive(2, 1, 4);
+        x.derive(1, 5, 2);
         x.derive(0, 5, 0);
-        CHECK.same("sum", x.peek(4), 300);
-        CHECK.same("how many go", x.erase(0, 0), 4);
-        living(x, 1, 2, 4, 6);
-        CHECK.same("the sum of those that live", x.peek(4), 200);
-        CHECK.same("the flag of it", x.peek(6), 0);
-        CHECK.same("the sum's persons stay", x.look(4, 2), 3);
-        CHECK.same("how many go then", x.erase(1, 0), 3);
-        living(x, 2);
+        x.derive(1, 7, 4);
+        CHECK.same("a copy, the sum of both, a flag, its copy and a sum of these", x.erase(0, 0), 6);
+        living(x, 1, 2, 6);
+        CHECK.same("the sum of what lives", x.peek(6), 300);
+        // A chain of a hundred.
+        ConsentRegister y = register();
+        for (int i = 3; i < 100; i++) {
+            y.derive(0, i == 3 ? 0 : i - 1, 0);
+        }
+        CHECK.same("down to the newest", y.erase(0, 0), 98);
+        CHECK.same("others live", y.state(3), 2);
     }
 
-    private static void promise14KeptByHold() {
+    private static void termsWordsAreZero() {
+        CHECK.says("Terms", "Erased items' words are 0.");
+        ConsentRegister x = register();
+        x.derive(0, 1, 0);
+        x.derive(1, 1, 3);
+        x.derive(2, 1, 0);
+        CHECK.same("how many go", x.erase(1, 0), 4);
+        for (int item : new int[] {1, 3, 4, 5}) {
+            CHECK.same("peek(" + item + ")", x.peek(item), 0);
+        }
+        CHECK.same("another one's", x.peek(0), 100);
+    }
+
+    private static void termsKeptByHold() {
+        CHECK.says("Terms", "when a hold or a duty covers it then");
         ConsentRegister x = register();
         x.put(0, 1, 8, 5);
         x.hold(101, 1, 20);
@@ -116,9 +188,14 @@ public final class ErasureTest {
         CHECK.same("its value stays", x.peek(3), 8);
         CHECK.same("before the hold", x.erase(0, 20 * DAY - 1), 1);
         living(x, 1, 2);
+        x.lift(1, 25);
+        CHECK.same("the day before it was lifted", x.erase(1, 25 * DAY - 1), 0);
+        CHECK.same("when it was lifted", x.erase(1, 25 * DAY), 1);
+        living(x, 2);
     }
 
-    private static void promise14KeptByDuty() {
+    private static void termsKeptByDuty() {
+        CHECK.says("Terms", "A duty COVERS an item of its kind on the days said at 3");
         ConsentRegister x = register();
         x.duty(0, 1, 3);
         CHECK.same("its first day", x.erase(0, 5 * DAY), 0);
@@ -130,7 +207,18 @@ public final class ErasureTest {
         living(x);
     }
 
-    private static void promise14KeptByDerived() {
+    private static void termsDutyWhateverItsPurpose() {
+        CHECK.says("Terms", "whatever its purpose");
+        for (int purpose = 0; purpose <= 1; purpose++) {
+            ConsentRegister x = register();
+            x.duty(0, purpose, 1);
+            CHECK.same("on its one day", x.erase(0, 5 * DAY), 0);
+            CHECK.same("on the day after", x.erase(0, 6 * DAY), 1);
+        }
+    }
+
+    private static void termsKeptByDerived() {
+        CHECK.says("Terms", "or an item that lives, is derived from it and is KEPT then");
         ConsentRegister x = register();
         x.put(3, 1, 1, 0);
         x.derive(0, 0, 0);
@@ -149,7 +237,22 @@ public final class ErasureTest {
         CHECK.same("the sum follows", x.peek(5), 200);
     }
 
-    private static void promise14SumBetweenKeptAndNot() {
+    private static void termsKeptDownALongChain() {
+        CHECK.says("Terms", "or an item that lives, is derived from it and is KEPT then");
+        ConsentRegister x = register();
+        for (int i = 3; i < 98; i++) {
+            x.derive(0, i == 3 ? 0 : i - 1, 0);
+        }
+        x.put(3, 1, 1, 0);
+        x.derive(2, 98, 97);
+        x.hold(101, 0, 3);
+        CHECK.same("the newest of a hundred keeps the oldest", x.erase(0, 3 * DAY), 0);
+        CHECK.same("not on the day before", x.erase(0, 3 * DAY - 1), 97);
+        CHECK.same("others live", x.state(3), 3);
+    }
+
+    private static void termsKeptBesideNotKept() {
+        CHECK.says("Terms", "those of them that are not kept");
         ConsentRegister x = register();
         x.put(0, 1, 40, 5);
         x.derive(1, 0, 3);
@@ -168,7 +271,8 @@ public final class ErasureTest {
     }
 
     /** What is derived straight keeps an item; an erased flag between them hands nothing on. */
-    private static void promise14NotKeptThroughErased() {
+    private static void termsNotKeptThroughErased() {
+        CHECK.says("Terms", "An item that lives is KEPT on a day");
         ConsentRegister x = register();
         x.put(3, 1, 1, 5);
         x.derive(2, 0, 1);
@@ -180,33 +284,83 @@ public final class ErasureTest {
         living(x, 2, 3, 5);
     }
 
-    private static void promise15Refusals() {
+    private static void promise14OnTheDayOfAMinute() {
+        CHECK.says("Promise 14", "on the day of a minute");
         ConsentRegister x = register();
-        for (int day : new int[] {-1, 6945, Integer.MIN_VALUE, Integer.MAX_VALUE}) {
-            CHECK.refuses("sweep(" + day + ")", Check.ARGUMENT, () -> x.sweep(day));
-        }
-        CHECK.same("none is due", x.sweep(6944), 0);
-        living(x, 0, 1, 2);
+        x.hold(0, 0, 1);
+        x.lift(0, 2);
+        x.hold(1, 0, 6944);
+        CHECK.same("minute 1440", x.erase(0, 1440), 0);
+        CHECK.same("minute 2879", x.erase(0, 2879), 0);
+        CHECK.same("minute 2880", x.erase(0, 2880), 1);
+        CHECK.same("the last minute", x.erase(1, 10_000_000), 0);
+        CHECK.same("the last day's first minute", x.erase(1, 9_999_360), 0);
+        CHECK.same("the minute before", x.erase(1, 9_999_359), 1);
+        x.hold(2, 0, 0);
+        x.lift(2, 1);
+        CHECK.same("minute 1439", x.erase(2, 1439), 0);
+        CHECK.same("minute 1440", x.erase(2, 1440), 1);
     }
 
-    private static void promise15Due() {
+    private static void promise15Days() {
+        CHECK.says("Promise 15", "IllegalArgumentException: the day is not 0 to 6,944.");
+        ConsentRegister x = register();
+        x.event(0, 0, 5);
+        for (int day : new int[] {-1, 6945, LOW, HIGH}) {
+            CHECK.refuses("sweep(" + day + ")", Check.ARGUMENT, () -> x.sweep(day));
+        }
+        living(x, 0, 1, 2);
+        CHECK.same("the first day", x.sweep(0), 0);
+        CHECK.same("the last day", x.sweep(6944), 1);
+        living(x, 1, 2);
+    }
+
+    private static void promise15DueOnADay() {
+        CHECK.says("Promise 15", "To ERASE all items that are due on a day");
         ConsentRegister x = register();
         x.put(0, 1, 1, 5);
         x.event(0, 0, 7);
         x.event(0, 1, 7);
-        x.event(1, 0, 4);
-        x.event(2, 0, 5);
-        CHECK.same("the day before", x.sweep(14), 0);
-        CHECK.same("due on that day", x.sweep(15), 1);
-        living(x, 0, 1, 3);
-        x.event(0, 0, 30);
-        CHECK.same("a later event puts it off", x.sweep(39), 1);
-        living(x, 0, 1);
-        CHECK.same("due before", x.sweep(6944), 1);
-        living(x, 1);
+        CHECK.same("the day before", x.sweep(16), 0);
+        CHECK.same("on that day", x.sweep(17), 1);
+        living(x, 1, 2, 3);
+        CHECK.same("the other kind's day before", x.sweep(26), 0);
+        CHECK.same("the other kind's day", x.sweep(27), 1);
+        CHECK.same("once only", x.sweep(27), 0);
+        living(x, 1, 2);
+        x.event(1, 0, 6934);
+        CHECK.same("due on the last day", x.sweep(6944), 1);
+        x.event(2, 0, 6935);
+        CHECK.same("due beyond the last day", x.sweep(6944), 0);
+        living(x, 2);
+    }
+
+    private static void promise15OrWereBefore() {
+        CHECK.says("Promise 15", "or were before");
+        ConsentRegister x = register();
+        x.event(0, 0, 5);
+        x.event(1, 0, 6);
+        x.event(2, 0, 30);
+        CHECK.same("two that were before", x.sweep(39), 2);
+        living(x, 2);
+        x.event(2, 0, 50);
+        CHECK.same("a later event puts it off", x.sweep(59), 0);
+        CHECK.same("until then", x.sweep(6944), 1);
+    }
+
+    private static void promise15NotDue() {
+        CHECK.says("Terms", "without such an event it is not");
+        ConsentRegister x = register();
+        x.derive(0, 1, 0);
+        x.event(0, 0, 4);
+        x.event(1, 1, 5);
+        x.event(3, 0, 5);
+        CHECK.same("none is due", x.sweep(6944), 0);
+        living(x, 0, 1, 2, 3);
     }
 
     private static void promise15Kept() {
+        CHECK.says("Promise 15", "on that day");
         ConsentRegister x = register();
         x.event(0, 0, 5);
         x.event(1, 0, 5);
@@ -221,9 +375,18 @@ public final class ErasureTest {
         CHECK.same("kept by a duty", x.sweep(104), 0);
         CHECK.same("after the duty", x.sweep(105), 1);
         living(x);
+        ConsentRegister y = register();
+        y.event(0, 0, 5);
+        y.put(3, 1, 1, 0);
+        y.derive(2, 3, 0);
+        y.hold(101, 0, 40);
+        CHECK.same("kept by what is derived from it", y.sweep(40), 0);
+        CHECK.same("not on the day before", y.sweep(39), 2);
+        living(y, 1, 2, 3);
     }
 
-    private static void promise15DerivedGo() {
+    private static void promise15HowMany() {
+        CHECK.says("Promise 15", "on that day: how many");
         ConsentRegister x = register();
         x.derive(0, 0, 0);
         x.derive(1, 3, 1);

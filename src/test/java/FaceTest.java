@@ -13,7 +13,10 @@ import java.util.Set;
 import java.util.TreeSet;
 import java.util.regex.Pattern;
 
-/** The face of the document, and those rules of LANGUAGE.md that can be seen from outside or in the text. */
+/**
+ * The face of the document, and those rules of LANGUAGE.md that can be seen from outside or in the
+ * text. First argument: the file of the class.
+ */
 public final class FaceTest {
     private static final Check CHECK = new Check();
     private static final String ARGUMENT_STATE = " IllegalArgumentException IllegalStateException";
@@ -50,9 +53,7 @@ public final class FaceTest {
         rule1NamesApart();
         rule5StaticFieldsAreFinal();
         rule11Sizes();
-        if (args.length == 1) {
-            text(Files.readString(Path.of(args[0])));
-        }
+        text(Files.readString(Path.of(args[0])));
         CHECK.end();
     }
 

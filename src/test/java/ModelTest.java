@@ -2,8 +2,11 @@ import java.util.Random;
 
 /** Runs of 512 mixed calls, the same ones each time, on a register and on the model side by side. */
 public final class ModelTest {
-    private static final int RUNS = 1500;
+    private static final int RUNS = 2500;
     private static final int CALLS = 512;
+    /** Every other run ends with so many looks at what the others made. */
+    private static final int VIEWS = 150;
+    private static final int FIRST_VIEW = 14;
     private static final int[] WILD = {
         Integer.MIN_VALUE, Integer.MIN_VALUE + 100, -1441, -2, -1, 0, 1, 15, 16, 17, 31, 32, 99, 100, 107, 108,
         199, 200, 4999, 5000, 5001, 6943, 6944, 6945, 9_999_999, 10_000_000, 10_000_001, Integer.MAX_VALUE};
@@ -37,28 +40,16 @@ public final class ModelTest {
         persons = 1 + random.nextInt(seed % 3 == 0 ? 16 : 4);
         days = 1 + random.nextInt(seed % 5 == 0 ? 6944 : 40);
         wildOf = seed % 7 == 0 ? 3 : 60;
+        int mixed = seed % 2 == 0 ? CALLS : CALLS - VIEWS;
         ConsentRegister x = new ConsentRegister();
         Model y = new Model();
         for (int i = 0; i < CALLS && !check.failed(); i++) {
-            int name = i < 4 ? i % 2 : choose();
+            int name = i < 4 ? i % 2 : i < mixed ? choose() : chooseView();
             int[] a = arguments(name, y);
             String got = told(() -> call(x, name, a));
             String want = told(() -> call(y, name, a));
             String what = "run " + seed + ", call " + i + ": " + NAMES[name] + java.util.Arrays.toString(a);
             check.that(what + " answered " + got + ", due is " + want, got.equals(want));
-        }
-        sameItems(seed, x, y);
-    }
-
-    private void sameItems(int seed, ConsentRegister x, Model y) {
-        for (int item = 0; item < 100; item++) {
-            check.same("run " + seed + ": at the end peek(" + item + ")", x.peek(item), y.peek(item));
-            for (int what = 0; what <= 4; what++) {
-                check.same("run " + seed + ": at the end look(" + item + ", " + what + ")", x.look(item, what), y.look(item, what));
-            }
-        }
-        for (int i = 0; i < 200; i++) {
-            check.same("run " + seed + ": at the end logged(" + i + ", 3)", x.logged(i, 3), y.logged(i, 3));
         }
     }
 
@@ -82,6 +73,10 @@ public final class ModelTest {
             name++;
         }
         return name;
+    }
+
+    private int chooseView() {
+        return FIRST_VIEW + random.nextInt(NAMES.length - FIRST_VIEW);
     }
 
     private int person() {
