@@ -202,6 +202,11 @@ public final class ErasureTest {
         CHECK.same("its last minute", x.erase(0, 8 * DAY - 1), 0);
         CHECK.same("after it", x.erase(0, 8 * DAY), 1);
         CHECK.same("before it", x.erase(1, 5 * DAY - 1), 1);
+        x.put(1, 0, 200, 5);
+        CHECK.same("long after it", x.erase(1, 10_000_000), 1);
+        x.put(1, 0, 200, 6944);
+        CHECK.same("its end lies beyond the last day", x.erase(1, 10_000_000), 0);
+        CHECK.same("long before it", x.erase(1, 0), 1);
         x.duty(1, 1, 5000);
         CHECK.same("another kind's", x.erase(2, 8 * DAY), 1);
         living(x);

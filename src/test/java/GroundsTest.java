@@ -292,6 +292,9 @@ public final class GroundsTest {
         ground(x, 0, 1, 10 * DAY, 3);
         ground(x, 0, 1, 15 * DAY - 1, 3);
         ground(x, 0, 1, 15 * DAY, 0);
+        ground(x, 0, 1, 16 * DAY, 0);
+        ground(x, 0, 1, 10_000_000, 0);
+        ground(x, 0, 1, 0, 0);
         x.duty(0, 2, 1);
         ground(x, 0, 2, 10 * DAY - 1, 0);
         ground(x, 0, 2, 10 * DAY, 3);

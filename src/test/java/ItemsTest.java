@@ -34,6 +34,7 @@ public final class ItemsTest {
         promise19DerivedStraight();
         promise19NotLiving();
         promise19Others();
+        promise18And19BesideTheLastOf100();
         termsDueFromTheLatestEvent();
         termsDueNotBeforeItsOwnDay();
         termsDueOfItsPersonAndKind();
@@ -157,6 +158,33 @@ public final class ItemsTest {
         CHECK.same("items ever", x.state(2), 100);
         CHECK.same("items living", x.state(3), 93);
         CHECK.same("the last one's value", x.peek(99), 99);
+    }
+
+    private static void promise18And19BesideTheLastOf100() {
+        CHECK.says("Promise 19", "-1 when it doesn't live");
+        ConsentRegister x = register();
+        for (int i = 0; i < 100; i++) {
+            x.put(0, 1, i + 1, 6);
+        }
+        int[] last = {1, 6, 1, -1, 0};
+        for (int what = 0; what <= 4; what++) {
+            CHECK.same("look(99, " + what + ")", x.look(99, what), last[what]);
+            CHECK.same("look(100, " + what + ")", x.look(100, what), -1);
+            CHECK.same("look(101, " + what + ")", x.look(101, what), -1);
+        }
+        CHECK.says("Promise 18", "0 when it doesn't live");
+        CHECK.same("peek(99)", x.peek(99), 100);
+        CHECK.same("peek(100)", x.peek(100), 0);
+        CHECK.same("peek(101)", x.peek(101), 0);
+        CHECK.says("Promise 8", "NoSuchElementException: an input does not live.");
+        for (int how = 0; how <= 2; how++) {
+            int h = how;
+            CHECK.refuses("derive(" + h + ", 100, 99)", Check.MISSING, () -> x.derive(h, 100, 99));
+        }
+        CHECK.refuses("derive(1, 99, 100)", Check.MISSING, () -> x.derive(1, 99, 100));
+        CHECK.says("Promise 12", "NoSuchElementException: the item does not live.");
+        CHECK.refuses("use(100, 0, 0)", Check.MISSING, () -> x.use(100, 0, 0));
+        CHECK.refuses("use(101, 0, 0)", Check.MISSING, () -> x.use(101, 0, 0));
     }
 
     private static void termsCopy() {
@@ -459,6 +487,10 @@ public final class ItemsTest {
         CHECK.same("from the copy", x.look(2, 4), 2);
         CHECK.same("as the second and as the first", x.look(1, 4), 2);
         CHECK.same("from the newest", x.look(6, 4), 0);
+        x.put(3, 1, 5, 8);
+        x.derive(1, 1, 7);
+        CHECK.same("not from the inputs beside it", x.look(0, 4), 4);
+        CHECK.same("from the one beside it", x.look(7, 4), 1);
         CHECK.same("erase an item with its flag", x.erase(4, 0), 2);
         CHECK.same("those that live only", x.look(0, 4), 3);
     }
@@ -531,8 +563,11 @@ public final class ItemsTest {
         x.derive(0, 0, 0);
         CHECK.says("Terms", "without such an event it is not");
         CHECK.same("no event", x.look(0, 3), -1);
+        x.put(0, 0, 5, 0);
+        CHECK.same("no event of the first person and kind on the first day", x.look(2, 3), -1);
         x.event(3, 1, 50);
         CHECK.same("an event", x.look(0, 3), 70);
+        CHECK.same("an event of others", x.look(2, 3), -1);
         CHECK.says("Terms", "DUE: an item that was put");
         CHECK.same("a derived one is not due", x.look(1, 3), -1);
     }
