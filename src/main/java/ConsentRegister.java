@@ -34,8 +34,8 @@ public final class ConsentRegister {
     public ConsentRegister() {
         purposes = new Purposes();
         kinds = new Kinds();
-        consents = new Consents(purposes);
-        contracts = new Contracts(purposes);
+        consents = new Consents();
+        contracts = new Contracts();
         duties = new Duties();
         items = new Items();
         events = new Events();
@@ -247,10 +247,10 @@ public final class ConsentRegister {
         int kind = items.kindOf(item);
         int day = dayOfMinute(minute);
         if (!holds.coverByPerson(persons, day)) {
-            if (consents.allSayYes(persons, purpose, minute)) {
+            if (consents.allSayYes(purposes, persons, purpose, minute)) {
                 return BY_CONSENT;
             }
-            if (contracts.oneSpans(persons, purpose, minute)) {
+            if (contracts.oneSpans(purposes, persons, purpose, minute)) {
                 return BY_CONTRACT;
             }
             if (duties.coverFor(purpose, kind, items.dayOf(item), day)) {
@@ -460,16 +460,11 @@ public final class ConsentRegister {
 
     private static final class Consents {
         private static final int MOST = 100;
-        private final Purposes tree;
         private final int[] persons = new int[MOST];
         private final int[] purposes = new int[MOST];
         private final int[] minutes = new int[MOST];
         private final boolean[] yeses = new boolean[MOST];
         private int count;
-
-        Consents(Purposes tree) {
-            this.tree = tree;
-        }
 
         boolean hasRoom() {
             return count < MOST;
@@ -486,9 +481,9 @@ public final class ConsentRegister {
             return count;
         }
 
-        boolean allSayYes(int bits, int purpose, int minute) {
+        boolean allSayYes(Purposes tree, int bits, int purpose, int minute) {
             for (int person = 0; person < PERSONS; person++) {
-                if (hasPerson(bits, person) && !saysYes(person, purpose, minute)) {
+                if (hasPerson(bits, person) && !saysYes(tree, person, purpose, minute)) {
                     return false;
                 }
             }
@@ -496,7 +491,7 @@ public final class ConsentRegister {
         }
 
         /** The nearest purpose with an entry decides, also when one above it says otherwise. */
-        private boolean saysYes(int person, int purpose, int minute) {
+        private boolean saysYes(Purposes tree, int person, int purpose, int minute) {
             int at = purpose;
             for (int step = 0; step < Purposes.MOST && tree.has(at); step++) {
                 int entry = latestAt(person, at, minute);
@@ -522,16 +517,11 @@ public final class ConsentRegister {
 
     private static final class Contracts {
         private static final int MOST = 40;
-        private final Purposes tree;
         private final int[] persons = new int[MOST];
         private final int[] purposes = new int[MOST];
         private final int[] froms = new int[MOST];
         private final int[] tos = new int[MOST];
         private int count;
-
-        Contracts(Purposes tree) {
-            this.tree = tree;
-        }
 
         boolean hasRoom() {
             return count < MOST;
@@ -548,7 +538,7 @@ public final class ConsentRegister {
             return count;
         }
 
-        boolean oneSpans(int bits, int purpose, int minute) {
+        boolean oneSpans(Purposes tree, int bits, int purpose, int minute) {
             for (int i = 0; i < count; i++) {
                 boolean inTime = froms[i] <= minute && minute <= tos[i];
                 if (inTime && hasPerson(bits, persons[i]) && tree.isAtOrAbove(purposes[i], purpose)) {
