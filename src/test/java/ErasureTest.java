@@ -15,7 +15,9 @@ public final class ErasureTest {
         termsAndSoOn();
         termsWordsAreZero();
         termsKeptByHold();
+        termsKeptByAnyHold();
         termsKeptByDuty();
+        termsKeptByAnyDuty();
         termsDutyWhateverItsPurpose();
         termsKeptByDerived();
         termsKeptDownALongChain();
@@ -28,6 +30,7 @@ public final class ErasureTest {
         promise15NotDue();
         promise15Kept();
         promise15HowMany();
+        onlyItemsAreErased();
         CHECK.end();
     }
 
@@ -121,6 +124,19 @@ public final class ErasureTest {
         living(x, 1, 2, 6, 7);
         CHECK.same("a flag of others stays", x.peek(6), 1);
         CHECK.same("a copy of another one stays", x.peek(7), 200);
+        // Whatever the values are, and whichever input goes.
+        for (int value : new int[] {-5, 0, 5}) {
+            for (int other : new int[] {-5, 0, 5}) {
+                ConsentRegister y = register();
+                y.put(3, 0, value, 5);
+                y.put(4, 0, other, 5);
+                y.derive(2, 3, 4);
+                y.derive(2, 4, 3);
+                y.derive(0, 3, 0);
+                CHECK.same("the item, its copy and both flags", y.erase(3, 0), 4);
+                living(y, 0, 1, 2, 4);
+            }
+        }
     }
 
     private static void termsSumGoesWithoutInput() {
@@ -192,6 +208,33 @@ public final class ErasureTest {
         CHECK.same("the day before it was lifted", x.erase(1, 25 * DAY - 1), 0);
         CHECK.same("when it was lifted", x.erase(1, 25 * DAY), 1);
         living(x, 2);
+    }
+
+    private static void termsKeptByAnyHold() {
+        CHECK.says("Terms", "when a hold or a duty covers it then");
+        for (int right = 0; right < 3; right++) {
+            for (int of : new int[] {0, 100}) {
+                ConsentRegister x = register();
+                for (int i = 0; i < 3; i++) {
+                    x.hold(i == right ? of : 7, 0, 0);
+                }
+                CHECK.same("one of three holds keeps it", x.erase(0, 0), 0);
+                x.lift(right, 1);
+                CHECK.same("the others do not", x.erase(0, DAY), 1);
+            }
+        }
+    }
+
+    private static void termsKeptByAnyDuty() {
+        CHECK.says("Terms", "when a hold or a duty covers it then");
+        for (int longest = 0; longest < 3; longest++) {
+            ConsentRegister x = register();
+            for (int i = 0; i < 3; i++) {
+                x.duty(i == longest ? 0 : 1, i % 2, i == longest ? 7 : 100);
+            }
+            CHECK.same("one of three duties keeps it", x.erase(0, 12 * DAY - 1), 0);
+            CHECK.same("the others do not", x.erase(0, 12 * DAY), 1);
+        }
     }
 
     private static void termsKeptByDuty() {
@@ -338,6 +381,12 @@ public final class ErasureTest {
         x.event(2, 0, 6935);
         CHECK.same("due beyond the last day", x.sweep(6944), 0);
         living(x, 2);
+        ConsentRegister y = new ConsentRegister();
+        y.kind(1);
+        y.put(0, 0, 1, 0);
+        y.event(0, 0, 0);
+        CHECK.same("the earliest due day, the day before", y.sweep(0), 0);
+        CHECK.same("the earliest due day", y.sweep(1), 1);
     }
 
     private static void promise15OrWereBefore() {
@@ -404,5 +453,58 @@ public final class ErasureTest {
         x.event(1, 0, 5);
         CHECK.same("the item, the sum and the flag", x.sweep(15), 3);
         living(x, 2);
+    }
+
+    /** Purposes 0 to 4, a ground of each number for its own purpose, for item 0 of person 0 and kind 0, day 5. */
+    private static ConsentRegister withEveryGround() {
+        ConsentRegister x = register();
+        for (int i = 2; i <= 4; i++) {
+            x.purpose(0);
+        }
+        x.consent(0, 1, true, 0);
+        x.contract(0, 2, 0, 10_000_000);
+        x.duty(0, 3, 5000);
+        x.hold(100, 4, 30);
+        x.event(0, 0, 6);
+        x.put(5, 1, 7, 5);
+        x.event(5, 1, 5);
+        x.contract(5, 0, 9, 9);
+        x.use(3, 0, 9);
+        x.use(0, 2, 0);
+        return x;
+    }
+
+    private static void onlyItemsAreErased() {
+        for (int way = 0; way < 2; way++) {
+            ConsentRegister x = withEveryGround();
+            if (way == 0) {
+                CHECK.says("Promise 14", "To ERASE all items that were put of a person");
+                CHECK.same("erase", x.erase(5, 40 * DAY), 1);
+            } else {
+                CHECK.says("Promise 15", "To ERASE all items that are due on a day");
+                CHECK.same("sweep", x.sweep(40), 1);
+            }
+            living(x, 0, 1, 2);
+            CHECK.same("the latest use's ground stays", x.why(), 2);
+            int[][] uses = {{3, 0, 9, 2}, {0, 2, 0, 2}};
+            for (int what = 0; what < 4; what++) {
+                CHECK.same("the log of the erased one, " + what, x.logged(0, what), uses[0][what]);
+                CHECK.same("the log of another one, " + what, x.logged(1, what), uses[1][what]);
+            }
+            int[] counts = {5, 2, 4, 3, 2, 1};
+            for (int what = 0; what < counts.length; what++) {
+                CHECK.same("state(" + what + ")", x.state(what), counts[what]);
+            }
+            for (int ground = 1; ground <= 4; ground++) {
+                CHECK.same("a use by ground " + ground, x.use(0, ground, 40 * DAY), 100);
+                CHECK.same("its ground", x.why(), ground);
+            }
+            CHECK.same("the events stay", x.look(0, 3), 16);
+            CHECK.same("how many consents", x.consent(0, 0, true, 0), 2);
+            CHECK.same("how many contracts", x.contract(0, 0, 0, 0), 3);
+            CHECK.same("how many duties", x.duty(0, 0, 1), 2);
+            CHECK.same("how many events", x.event(0, 0, 0), 3);
+            CHECK.same("the next hold", x.hold(0, 0, 0), 1);
+        }
     }
 }

@@ -9,6 +9,7 @@ public final class GroundsTest {
         atOrAboveDownAChain();
         dayOfAMinute();
         consentOfEachPerson();
+        consentOfSixteenPersons();
         consentNotLater();
         consentAtTheNearest();
         consentOfTheLatestMinute();
@@ -17,11 +18,18 @@ public final class GroundsTest {
         contractForSomePerson();
         contractAtOrAbove();
         contractFromTo();
+        contractOfOneSpan();
+        contractOfAnySpan();
         dutyOfItsKindForThatPurpose();
         dutyDays();
         dutyOfADerivedOne();
+        dutyOfOneDuty();
+        dutyOfAnyDuty();
         holdNamesThePurpose();
+        holdOfAnyHold();
         holdOfAPersonOnlyCounts();
+        holdOfAPersonOnlyCountsWhateverItNames();
+        holdOfAPersonOnlyCountsAmongOthers();
         holdOfAKindLeavesOthers();
         firstGroundThatIs();
         CHECK.end();
@@ -151,6 +159,28 @@ public final class GroundsTest {
         ground(y, 4, 0, 2, 0);
     }
 
+    private static void consentOfSixteenPersons() {
+        CHECK.says("Terms", "1: CONSENT of each of its persons");
+        ConsentRegister x = register();
+        int sum = x.put(0, 0, 1, 0);
+        for (int person = 1; person < 16; person++) {
+            sum = x.derive(1, sum, x.put(person, 0, 1, 0));
+        }
+        CHECK.same("its persons", x.look(sum, 2), 65_535);
+        for (int person = 0; person < 16; person++) {
+            ground(x, sum, 1, 100, 0);
+            x.consent(person, 0, true, person);
+        }
+        ground(x, sum, 1, 100, 1);
+        ground(x, sum, 1, 14, 0);
+        for (int person = 0; person < 16; person++) {
+            x.consent(person, 1, false, 200 + 2 * person);
+            ground(x, sum, 1, 200 + 2 * person, 0);
+            x.consent(person, 1, true, 201 + 2 * person);
+            ground(x, sum, 1, 201 + 2 * person, 1);
+        }
+    }
+
     private static void consentNotLater() {
         CHECK.says("Terms", "of all entries of a person that are not later than m");
         ConsentRegister x = register();
@@ -271,6 +301,35 @@ public final class GroundsTest {
         ground(x, 0, 0, 10_000_000, 2);
     }
 
+    /** Person, purpose and time must be one span's: here each span lacks one of them. */
+    private static void contractOfOneSpan() {
+        CHECK.says("Terms", "a span for a purpose at or above p with from <= m <= to");
+        ConsentRegister x = register();
+        x.contract(1, 1, 0, 99);
+        x.contract(1, 3, 100, 200);
+        x.contract(2, 1, 100, 200);
+        ground(x, 0, 1, 150, 0);
+        ground(x, 0, 2, 150, 0);
+        ground(x, 0, 1, 99, 2);
+        ground(x, 0, 3, 150, 2);
+        ground(x, 1, 1, 150, 2);
+        ground(x, 1, 3, 150, 0);
+    }
+
+    private static void contractOfAnySpan() {
+        CHECK.says("Terms", "for some person of it, a span");
+        for (int right = 0; right < 3; right++) {
+            ConsentRegister x = register();
+            for (int i = 0; i < 3; i++) {
+                x.contract(i == right ? 1 : 2, 0, 10 * i, 10 * i + 5);
+            }
+            for (int i = 0; i < 3; i++) {
+                ground(x, 0, 2, 10 * i, i == right ? 2 : 0);
+                ground(x, 1, 2, 10 * i + 5, i == right ? 0 : 2);
+            }
+        }
+    }
+
     private static void dutyOfItsKindForThatPurpose() {
         CHECK.says("Terms", "3: DUTY: of its kind for p");
         ConsentRegister x = register();
@@ -325,6 +384,35 @@ public final class GroundsTest {
         ground(x, 4, 1, 12 * DAY, 0);
     }
 
+    /** Kind, purpose and days must be one duty's: here each duty lacks one of them. */
+    private static void dutyOfOneDuty() {
+        CHECK.says("Terms", "3: DUTY: of its kind for p, its day <= the day of m");
+        ConsentRegister x = register();
+        x.duty(0, 1, 2);
+        x.duty(0, 3, 50);
+        x.duty(1, 1, 50);
+        ground(x, 0, 1, 12 * DAY, 0);
+        ground(x, 0, 1, 12 * DAY - 1, 3);
+        ground(x, 0, 3, 12 * DAY, 3);
+        x.put(1, 1, 33, 10);
+        ground(x, 2, 1, 12 * DAY, 3);
+        ground(x, 2, 3, 12 * DAY, 0);
+    }
+
+    private static void dutyOfAnyDuty() {
+        CHECK.says("Terms", "3: DUTY: of its kind for p");
+        for (int longest = 0; longest < 3; longest++) {
+            ConsentRegister x = register();
+            for (int i = 0; i < 3; i++) {
+                x.duty(0, 1, i == longest ? 7 : 3);
+            }
+            ground(x, 0, 1, 10 * DAY, 3);
+            ground(x, 0, 1, 13 * DAY, 3);
+            ground(x, 0, 1, 17 * DAY - 1, 3);
+            ground(x, 0, 1, 17 * DAY, 0);
+        }
+    }
+
     private static void holdNamesThePurpose() {
         CHECK.says("Terms", "4: HOLD: one covers the item on the day of m, and names p.");
         ConsentRegister x = register();
@@ -337,6 +425,52 @@ public final class GroundsTest {
         x.hold(2, 3, 20);
         ground(x, 1, 3, 20 * DAY, 4);
         ground(x, 0, 3, 20 * DAY, 0);
+    }
+
+    private static void holdOfAnyHold() {
+        CHECK.says("Terms", "4: HOLD: one covers the item on the day of m, and names p.");
+        int[] of = {1, 100, 2, 101};
+        for (int naming = 0; naming < of.length; naming++) {
+            ConsentRegister x = register();
+            for (int i = 0; i < of.length; i++) {
+                x.hold(of[i], i == naming ? 1 : 3, 0);
+            }
+            ground(x, 0, 1, 0, naming < 2 ? 4 : 0);
+            ground(x, 1, 1, 0, naming == 1 || naming == 2 ? 4 : 0);
+            ground(x, 0, 3, 0, 4);
+        }
+    }
+
+    private static void holdOfAPersonOnlyCountsWhateverItNames() {
+        CHECK.says("Terms", "only 4 counts");
+        for (int named = 0; named <= 3; named++) {
+            ConsentRegister x = register();
+            x.consent(1, 0, true, 0);
+            x.contract(1, 0, 0, 10_000_000);
+            for (int purpose = 0; purpose <= 3; purpose++) {
+                x.duty(0, purpose, 100);
+            }
+            x.hold(1, named, 20);
+            for (int purpose = 0; purpose <= 3; purpose++) {
+                ground(x, 0, purpose, 20 * DAY - 1, 1);
+                ground(x, 0, purpose, 20 * DAY, purpose == named ? 4 : 0);
+            }
+        }
+    }
+
+    private static void holdOfAPersonOnlyCountsAmongOthers() {
+        CHECK.says("Terms", "When a hold of a person (not of a kind) covers the item");
+        for (int right = 0; right < 3; right++) {
+            ConsentRegister x = register();
+            x.consent(1, 0, true, 0);
+            for (int i = 0; i < 3; i++) {
+                x.hold(i == right ? 1 : 2, 3, 20);
+            }
+            ground(x, 0, 1, 20 * DAY - 1, 1);
+            ground(x, 0, 1, 20 * DAY, 0);
+            x.lift(right, 30);
+            ground(x, 0, 1, 30 * DAY, 1);
+        }
     }
 
     private static void holdOfAPersonOnlyCounts() {

@@ -242,6 +242,14 @@ public final class ItemsTest {
             CHECK.same("kind the other way", x.look(x.derive(how, 1, 0), 0), 0);
         }
         CHECK.same("kind of a copy", x.look(x.derive(0, 0, 1), 0), 1);
+        // The first input's kind stays its own when that input is erased.
+        ConsentRegister y = withTwo();
+        y.derive(1, 0, 1);
+        y.derive(0, 2, 0);
+        CHECK.same("the first input goes", y.erase(1, 0), 1);
+        CHECK.same("the sum's kind", y.look(2, 0), 1);
+        CHECK.same("its copy's kind", y.look(3, 0), 1);
+        CHECK.same("a new copy's kind", y.look(y.derive(0, 2, 0), 0), 1);
     }
 
     private static void termsLaterDay() {
@@ -256,6 +264,14 @@ public final class ItemsTest {
         x.put(0, 0, 1, 0);
         CHECK.same("both on the first day", x.look(x.derive(1, 7, 8), 1), 0);
         CHECK.same("a copy on the first day", x.look(x.derive(0, 7, 8), 1), 0);
+        // The later day stays its own when the input of that day is erased.
+        ConsentRegister y = withTwo();
+        y.derive(1, 1, 0);
+        y.derive(0, 2, 0);
+        CHECK.same("the later input goes", y.erase(1, 0), 1);
+        CHECK.same("the sum's day", y.look(2, 1), 9);
+        CHECK.same("its copy's day", y.look(3, 1), 9);
+        CHECK.same("a new sum's day", y.look(y.derive(1, 2, 1), 1), 9);
     }
 
     private static void termsAllPersons() {
