@@ -11,6 +11,7 @@ import java.util.HashSet;
 import java.util.List;
 import java.util.Set;
 import java.util.TreeSet;
+import java.util.regex.Matcher;
 import java.util.regex.Pattern;
 
 /**
@@ -41,6 +42,7 @@ public final class FaceTest {
             "long peek int",
             "int look int int",
             "int state int");
+    private static final Pattern METHOD = Pattern.compile("(?ms)^((?: {4}){1,2})(\\w[^\\n;=]*\\([^;{]*\\{)$.*?^\\1\\}");
     private static final String[] RULED_OUT = {
         "\\btry\\b", "\\bcatch\\b", "\\bfinally\\b", "\\bsynchronized\\b", "\\bassert\\b", "->", "::",
         "\\bstatic\\s*\\{", "^\\s*package\\b", "\\bpublic\\s+(?!final class ConsentRegister|ConsentRegister\\(|int |long |void )",
@@ -53,7 +55,9 @@ public final class FaceTest {
         rule1NamesApart();
         rule5StaticFieldsAreFinal();
         rule11Sizes();
-        text(Files.readString(Path.of(args[0])));
+        String source = Files.readString(Path.of(args[0]));
+        rule11MethodsAreShort(source);
+        text(source);
         CHECK.end();
     }
 
@@ -145,5 +149,17 @@ public final class FaceTest {
         for (String out : RULED_OUT) {
             CHECK.that("the text has " + out, !Pattern.compile(out, Pattern.MULTILINE).matcher(code).find());
         }
+    }
+
+    /** A method begins at a line that ends with its brace, and ends at the brace below its first letter. */
+    private static void rule11MethodsAreShort(String source) {
+        Matcher method = METHOD.matcher(source);
+        int methods = 0;
+        while (method.find()) {
+            methods++;
+            long lines = method.group().lines().count();
+            CHECK.that("a method of " + lines + " lines: " + method.group(2), lines <= 60);
+        }
+        CHECK.that("methods were found", methods > FACE.size());
     }
 }
